@@ -294,7 +294,9 @@ public final class TypeFinder {
             if (kinds[at] != kind) {
                 return false;
             }
-            take(kind);
+            if (at + 1 < size) {
+                at++;
+            }
             return true;
         }
 
@@ -303,7 +305,7 @@ public final class TypeFinder {
                 throw new IllegalArgumentException();
             }
             long value = values[at];
-            if (kind != END && at + 1 < size) {
+            if (at + 1 < size) {
                 at++;
             }
             return value;
@@ -748,6 +750,14 @@ public final class TypeFinder {
         Type twin;
         int mark;
 
+        /** A new variable. */
+        Type() {
+            kind = VARIABLE;
+            data = null;
+            left = null;
+            right = null;
+        }
+
         Type(int kind, DataType data, Type left, Type right) {
             this.kind = kind;
             this.data = data;
@@ -777,10 +787,6 @@ public final class TypeFinder {
         private int walks;
 
         Unifier() {
-        }
-
-        static Type variable() {
-            return new Type(Type.VARIABLE, null, null, null);
         }
 
         static Type function(Type argument, Type result) {
@@ -929,7 +935,12 @@ public final class TypeFinder {
             }
             Type from = type.end();
             if (from.kind == Type.GENERAL) {
-                return variableFor(from);
+                if (from.mark != walks || from.twin == null) {
+                    from.mark = walks;
+                    from.twin = new Type();
+                    from.twin.comparable = from.comparable;
+                }
+                return from.twin;
             }
             if (from.left == null) {
                 return from;
@@ -937,15 +948,6 @@ public final class TypeFinder {
             Type left = copied(from.left, depth + 1);
             Type right = from.right == null ? null : copied(from.right, depth + 1);
             return new Type(from.kind, from.data, left, right);
-        }
-
-        private Type variableFor(Type general) {
-            if (general.mark != walks || general.twin == null) {
-                general.mark = walks;
-                general.twin = variable();
-                general.twin.comparable = general.comparable;
-            }
-            return general.twin;
         }
 
         /** Makes those variables of the type general that stand in no name's type. */
@@ -1131,15 +1133,15 @@ public final class TypeFinder {
             return null;
         }
 
-        private void addConstructor(DataType data, Node alternative, Node names) {
+        private void addConstructor(DataType data, Node alternative, Node words) {
             long word = alternative.value;
             if (constructor(word) != null || constructorOf(data, word) != null) {
                 throw new UnsupportedOperationException();
             }
             Node one = alternative.first;
             Node two = one == null ? null : one.next;
-            Type first = one == null ? null : typeOf(one, data, names, 0);
-            Type second = two == null ? null : typeOf(two, data, names, 0);
+            Type first = one == null ? null : typeOf(one, data, words, 0);
+            Type second = two == null ? null : typeOf(two, data, words, 0);
             Type type = data.whole;
             if (second != null) {
                 type = Unifier.function(second, type);
@@ -1150,8 +1152,8 @@ public final class TypeFinder {
             data.constructors.add(new Name(word, type, true));
         }
 
-        /** The names are the parameters' words; a function within bars the data type from being compared. */
-        private Type typeOf(Node node, DataType data, Node names, int depth) {
+        /** The words are those of the parameters; a function bars the data type from being compared. */
+        private Type typeOf(Node node, DataType data, Node words, int depth) {
             if (depth > DEEPEST_TYPE) {
                 throw new IllegalStateException();
             }
@@ -1159,11 +1161,11 @@ public final class TypeFinder {
                 return integer;
             }
             if (node.kind == Node.WORD_TYPE) {
-                Type parameter = node.first == null ? parameterType(node.value, data, names) : null;
-                return parameter != null ? parameter : dataTypeOf(node, data, names, depth);
+                Type parameter = node.first == null ? parameterType(node.value, data, words) : null;
+                return parameter != null ? parameter : dataTypeOf(node, data, words, depth);
             }
-            Type left = node.first == null ? integer : typeOf(node.first, data, names, depth + 1);
-            Type right = node.last == null ? integer : typeOf(node.last, data, names, depth + 1);
+            Type left = node.first == null ? integer : typeOf(node.first, data, words, depth + 1);
+            Type right = node.last == null ? integer : typeOf(node.last, data, words, depth + 1);
             if (node.kind == Node.FUNCTION_TYPE) {
                 data.allows = false;
                 return Unifier.function(left, right);
@@ -1171,17 +1173,17 @@ public final class TypeFinder {
             return new Type(Type.PAIR, null, left, right);
         }
 
-        private static Type parameterType(long word, DataType data, Node names) {
-            if (data.parameters > 0 && names.value == word) {
+        private static Type parameterType(long word, DataType data, Node words) {
+            if (data.parameters > 0 && words.value == word) {
                 return data.whole.left;
             }
-            if (data.parameters > 1 && names.next != null && names.next.value == word) {
+            if (data.parameters > 1 && words.next != null && words.next.value == word) {
                 return data.whole.right;
             }
             return null;
         }
 
-        private Type dataTypeOf(Node node, DataType data, Node names, int depth) {
+        private Type dataTypeOf(Node node, DataType data, Node words, int depth) {
             DataType meant = node.value == data.word ? data : dataType(node.value);
             int types = 0;
             for (Node part = node.first; part != null; part = part.next) {
@@ -1195,8 +1197,8 @@ public final class TypeFinder {
             }
             Node one = node.first;
             Node two = one == null ? null : one.next;
-            Type left = one == null ? null : typeOf(one, data, names, depth + 1);
-            Type right = two == null ? null : typeOf(two, data, names, depth + 1);
+            Type left = one == null ? null : typeOf(one, data, words, depth + 1);
+            Type right = two == null ? null : typeOf(two, data, words, depth + 1);
             return new Type(Type.DATA, meant, left, right);
         }
     }
@@ -1266,7 +1268,7 @@ public final class TypeFinder {
         }
 
         private Type addWord(long word) {
-            Type type = Unifier.variable();
+            Type type = new Type();
             scope.add(new Name(word, type, false));
             return type;
         }
@@ -1334,7 +1336,7 @@ public final class TypeFinder {
             Type type = found(node.first, depth + 1);
             for (Node part = node.first.next; part != null; part = part.next) {
                 Type argument = found(part, depth + 1);
-                Type result = Unifier.variable();
+                Type result = new Type();
                 unifier.unify(type, Unifier.function(argument, result));
                 type = checked(result);
             }
@@ -1346,7 +1348,7 @@ public final class TypeFinder {
                 if (part.kind == Node.OPERATOR) {
                     Type right = takeOperand();
                     Type left = takeOperand();
-                    Type result = Unifier.variable();
+                    Type result = new Type();
                     unifier.unify(operatorUse(part.value), Unifier.function(left, Unifier.function(right, result)));
                     operands.add(checked(result));
                 } else {
@@ -1406,36 +1408,31 @@ public final class TypeFinder {
             Type type = null;
             for (Node part = node.first.next; part != null; part = part.next) {
                 int outer = scope.size();
-                unifier.unify(patternType(part.first), subject);
-                Type found = found(part.last, depth + 1);
+                Node pattern = part.first;
+                boolean built = pattern.kind == Node.CONSTRUCTOR;
+                unifier.unify(built ? constructorPattern(pattern) : plainPattern(pattern), subject);
+                Type answer = found(part.last, depth + 1);
                 leave(outer);
                 if (type == null) {
-                    type = found;
+                    type = answer;
                 } else {
-                    unifier.unify(type, found);
+                    unifier.unify(type, answer);
                 }
             }
             judge(node);
             return type == null ? subject : type;
         }
 
-        private Type patternType(Node pattern) {
-            switch (pattern.kind) {
-                case Node.NUMBER:
-                    return known.integer;
-                case Node.NAME:
-                    return addWord(pattern.value);
-                case Node.PAIR:
-                    return pairPattern(pattern);
-                default:
-                    return constructorPattern(pattern);
+        private Type plainPattern(Node pattern) {
+            if (pattern.kind == Node.NUMBER) {
+                return known.integer;
             }
-        }
-
-        private Type pairPattern(Node pattern) {
-            Type left = addWord(pattern.first.value);
-            Type right = addWord(pattern.last.value);
-            return new Type(Type.PAIR, null, left, right);
+            if (pattern.kind == Node.PAIR) {
+                Type left = addWord(pattern.first.value);
+                Type right = addWord(pattern.last.value);
+                return new Type(Type.PAIR, null, left, right);
+            }
+            return addWord(pattern.value);
         }
 
         /** The names simply have the types of the constructor: nothing else is known of them yet. */

@@ -33,7 +33,12 @@ public final class Promise3TextTest {
         probe.declareThrows("data T=A", Probe.NO_TEXT);
         probe.declareThrows("data t=AB", Probe.NO_TEXT);
         probe.declareThrows("data t=Abcdefg", Probe.NO_TEXT);
-        probe.declares("data t=Abcdef|A", 102);
+        probe.declares("data t=Abcdef|A|Z|Zz", 102);
+        probe.asks("(Z, Zz)", "(t, t)");
+        probe.declares("z=(fn az->az)(9,0)", 4, "(int, int)");
+        // As many words, numbers and signs as there is room for.
+        probe.askThrows("1" + Probe.times(23, "(1)") + "(1,1)(1,1)", Probe.NO_TYPE);
+        probe.askThrows("1" + Probe.times(23, "(1)") + "(1,1)(1,1", Probe.NO_TEXT);
     }
 
     private static void definitions(Probe probe) {

@@ -4,6 +4,7 @@ public final class Promise4AskTest {
         Probe probe = new Probe("promise 4");
         texts(probe);
         noTexts(probe);
+        depths(probe);
         plainParts(probe);
         lets(probe);
         cases(probe);
@@ -63,6 +64,20 @@ public final class Promise4AskTest {
             "A x x", "(A)", "(x:y)", "", "-1"};
         for (String pattern : patterns) {
             probe.askThrows("case 1 of " + pattern + " -> 1", Probe.NO_TEXT);
+        }
+    }
+
+    /** The place marked # lies 12 deep, so that brackets there are one too many. */
+    private static void depths(Probe probe) {
+        String[] forms = {"fn x->#", "let x=# in 1", "let x=1 in #", "let x y=# in 1", "if # then 1 else 1",
+            "if True then # else 1", "if True then 1 else #", "case # of _->1", "case 1 of _->#", "case 1 of 1->1|_->#",
+            "(#)", "(#,1)", "(1,#)", "1+(#)", "1+(#,1)", "Nil (#)"};
+        for (String form : forms) {
+            probe.anew();
+            String text = Probe.times(11, "(") + form + Probe.times(11, ")");
+            Object answer = probe.askAnswer(text.replace("#", "True"));
+            probe.same(text + " is a text", answer != Probe.NO_TEXT, true);
+            probe.askThrows(text.replace("#", "(True)"), Probe.NO_TEXT);
         }
     }
 
