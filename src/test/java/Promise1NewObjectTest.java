@@ -12,13 +12,13 @@ public final class Promise1NewObjectTest {
 
     private static void nothingDeclared(Probe probe) {
         probe.anew();
-        probe.same("names", probe.finder.count(0), 0);
-        probe.same("data types", probe.finder.count(1), 2);
-        probe.same("bool is compared", probe.finder.count(2), 1);
-        probe.same("list is compared", probe.finder.count(3), 1);
-        probe.same("no third data type", probe.finder.count(4), -1);
-        probe.same("no scheme", probe.finder.scheme(0), -1);
-        probe.same("nothing written", probe.finder.written(0), -1);
+        probe.same("names", probe.count(0), 0);
+        probe.same("data types", probe.count(1), 2);
+        probe.same("bool is compared", probe.count(2), 1);
+        probe.same("list is compared", probe.count(3), 1);
+        probe.same("no third data type", probe.count(4), -1);
+        probe.same("no scheme", probe.scheme(0), -1);
+        probe.same("nothing written", probe.written(0), -1);
         probe.matches(0, 0);
         probe.askThrows("", Probe.NO_TEXT);
         probe.declareThrows("", Probe.NO_TEXT);
@@ -75,7 +75,7 @@ public final class Promise1NewObjectTest {
     private static void objectsOfTheirOwn(Probe probe) {
         probe.anew();
         probe.declares("x = 1", 0);
-        probe.finder.infix('^', 3, false);
+        probe.infix('^', 3, false);
         probe.anew();
         probe.askThrows("x", Probe.NOT_THERE);
         probe.askThrows("1 ^ 2", Probe.NO_TEXT);

@@ -10,7 +10,7 @@ public final class Promise2TypeTest {
     }
 
     private static boolean type(Probe probe, String text) {
-        return probe.finder.type(Probe.bytes(text));
+        return probe.type(Probe.bytes(text));
     }
 
     private static void ordinary(Probe probe) {
@@ -29,27 +29,27 @@ public final class Promise2TypeTest {
     private static void wrongBytes(Probe probe) {
         probe.anew();
         probe.typed("(1,");
-        probe.same("zero", probe.finder.type(0), false);
-        probe.same("zero below", probe.finder.type((long) '1' << 8), false);
+        probe.same("zero", probe.type(0), false);
+        probe.same("zero below", probe.type((long) '1' << 8), false);
         for (int c : new int[] {1, 9, 10, 31, 127, 128, 200, 255}) {
-            probe.same("byte " + c, probe.finder.type(c), false);
-            probe.same("byte " + c + " behind others", probe.finder.type('1' | (long) c << 8), false);
-            probe.same("byte " + c + " as the eighth", probe.finder.type(Probe.bytes("1111111") | (long) c << 56), false);
+            probe.same("byte " + c, probe.type(c), false);
+            probe.same("byte " + c + " behind others", probe.type('1' | (long) c << 8), false);
+            probe.same("byte " + c + " as the eighth", probe.type(Probe.bytes("1111111") | (long) c << 56), false);
         }
-        probe.same("all ones", probe.finder.type(-1), false);
-        probe.same("the lowest long", probe.finder.type(Long.MIN_VALUE), false);
+        probe.same("all ones", probe.type(-1), false);
+        probe.same("the lowest long", probe.type(Long.MIN_VALUE), false);
         // Nothing of what was refused stands in the draft.
         probe.asks("True)", "(int, bool)");
-        probe.same("32 is taken", probe.finder.type(32), true);
-        probe.same("126 is taken", probe.finder.type(126), true);
+        probe.same("32 is taken", probe.type(32), true);
+        probe.same("126 is taken", probe.type(126), true);
         probe.askThrows("", Probe.NO_TEXT);
     }
 
     private static void behindZero(Probe probe) {
         probe.anew();
-        probe.same("letters behind zero", probe.finder.type('1' | (long) 'x' << 16), true);
-        probe.same("wrong bytes behind zero", probe.finder.type('2' | 0xff01L << 16), true);
-        probe.same("a wrong top byte behind zero", probe.finder.type('3' | 0x80L << 56), true);
+        probe.same("letters behind zero", probe.type('1' | (long) 'x' << 16), true);
+        probe.same("wrong bytes behind zero", probe.type('2' | 0xff01L << 16), true);
+        probe.same("a wrong top byte behind zero", probe.type('3' | 0x80L << 56), true);
         probe.asks("", "int");
     }
 

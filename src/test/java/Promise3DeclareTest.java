@@ -26,8 +26,8 @@ public final class Promise3DeclareTest {
         probe.asks("x", "bool");
         probe.declares("data u = B t", 103);
         probe.declares("z = x", 3, "bool");
-        probe.same("names", probe.finder.count(0), 4);
-        probe.same("data types", probe.finder.count(1), 4);
+        probe.same("names", probe.count(0), 4);
+        probe.same("data types", probe.count(1), 4);
     }
 
     private static void functions(Probe probe) {
@@ -81,15 +81,15 @@ public final class Promise3DeclareTest {
         probe.declares("x + y = if x < 1 then y else x - 1 + y", 1, "int -> a -> a");
         // The operator's function may call itself, at one type.
         probe.declares("x @ y = 1", 2, "a -> b -> int");
-        probe.finder.infix('@', 4, true);
+        probe.infix('@', 4, true);
         probe.declares("x @ y = if True then x else y @ x", 3, "a -> a -> a");
         probe.declareThrows("x @ y = (1 @ 2, True @ False)", Probe.NO_TYPE);
         probe.declares("x - y = x @ y", 4, "a -> a -> a");
-        probe.finder.infix('^', 4, true);
+        probe.infix('^', 4, true);
         probe.askThrows("1 ^ 2", Probe.NOT_THERE);
         probe.declareThrows("x : y = 1", Probe.NOT_THERE);
         probe.declareThrows("x : y = z", Probe.NOT_THERE);
-        probe.same("names", probe.finder.count(0), 5);
+        probe.same("names", probe.count(0), 5);
     }
 
     private static void dataTypes(Probe probe) {
@@ -103,7 +103,7 @@ public final class Promise3DeclareTest {
         probe.asks("T", "a -> t int -> t a");
         probe.declares("data u list = V list (list list)", 105);
         probe.asks("V", "a -> list a -> u a");
-        probe.same("data types", probe.finder.count(1), 6);
+        probe.same("data types", probe.count(1), 6);
         probe.anew();
         probe.declares("data t = A t int | B (t, t) (t -> t) | C bool (list t) | D", 102);
         probe.asks("(A, B)", "(t -> int -> t, (t, t) -> (t -> t) -> t)");
@@ -133,7 +133,7 @@ public final class Promise3DeclareTest {
         probe.declareThrows("data t a = A (bool a)", Probe.NOT_THERE);
         probe.declareThrows("data t a = A (a int)", Probe.NOT_THERE);
         probe.declareThrows("data t = A (t int)", Probe.NOT_THERE);
-        probe.same("data types", probe.finder.count(1), 2);
+        probe.same("data types", probe.count(1), 2);
         // Constructors of what was refused are not there.
         probe.askThrows("A", Probe.NOT_THERE);
         probe.declares("data t = A", 102);
@@ -153,7 +153,7 @@ public final class Promise3DeclareTest {
         probe.declareThrows("x = y", Probe.NOT_THERE);
         probe.declareThrows("x = 1 1", Probe.NO_TYPE);
         probe.asks("(x, 1 + 2)", "(int, int)");
-        probe.same("names", probe.finder.count(0), 24);
+        probe.same("names", probe.count(0), 24);
         for (int i = 2; i < 6; i++) {
             char c = (char) ('a' + i);
             probe.declares("data " + c + " = " + Character.toUpperCase(c), 100 + i);
@@ -164,7 +164,7 @@ public final class Promise3DeclareTest {
         probe.declareThrows("data x = X y", Probe.NOT_THERE);
         probe.declareThrows("data x = X |", Probe.NO_TEXT);
         probe.askThrows("X", Probe.NOT_THERE);
-        probe.same("data types", probe.finder.count(1), 6);
+        probe.same("data types", probe.count(1), 6);
     }
 
     private static void sizes(Probe probe) {
@@ -210,7 +210,7 @@ public final class Promise3DeclareTest {
         probe.declareThrows("x = case 1 of A -> 1 1", Probe.NOT_THERE);
         probe.declareThrows("x = case 1 of True -> y", Probe.NO_TYPE);
         probe.declareThrows("x = case True of True y -> 1 1", Probe.NOT_THERE);
-        probe.finder.infix('^', 9, false);
+        probe.infix('^', 9, false);
         probe.declareThrows("x = (1 1) ^ 2", Probe.NO_TYPE);
         probe.declareThrows("x = 1 ^ (2 2)", Probe.NO_TYPE);
         probe.declareThrows("x = 1 ^ 2 + True", Probe.NOT_THERE);
@@ -226,12 +226,12 @@ public final class Promise3DeclareTest {
             probe.same("refused '" + text + "'", probe.declareAnswer(text) instanceof Class, true);
             probe.matches(1, 1);
             probe.same("what was written", probe.written(), "int -> int");
-            probe.same("names", probe.finder.count(0), 1);
-            probe.same("data types", probe.finder.count(1), 2);
+            probe.same("names", probe.count(0), 1);
+            probe.same("data types", probe.count(1), 2);
             probe.askThrows("A", Probe.NOT_THERE);
             // The draft is empty then.
             probe.asks("f", "int -> int");
-            probe.declares("f x = case x of 1 -> 2 | 1 -> 3", probe.finder.count(0));
+            probe.declares("f x = case x of 1 -> 2 | 1 -> 3", probe.count(0));
             probe.anew();
             probe.declares("f x = case x of 1 -> 2 | 1 -> 3", 0, "int -> int");
         }
@@ -244,23 +244,23 @@ public final class Promise3DeclareTest {
             probe.declareThrows(i % 2 == 0 ? "x" : "", Probe.NO_TEXT);
         }
         probe.declares("f x = case x of 1 -> 1", 1, "int -> int");
-        probe.same("false counts nothing", probe.finder.type(0), false);
-        probe.same("-1 counts nothing", probe.finder.scheme(9), -1);
-        probe.same("false counts nothing", probe.finder.infix(':', 1, true), false);
+        probe.same("false counts nothing", probe.type(0), false);
+        probe.same("-1 counts nothing", probe.scheme(9), -1);
+        probe.same("false counts nothing", probe.infix(':', 1, true), false);
         probe.declares("y = 2", 2, "int");
         probe.asks("case 1 of 1 -> 1", "int");
         probe.askThrows("z", Probe.NOT_THERE);
         probe.declares("z = 1", -2);
         probe.declares("", -2);
         probe.same("ask", probe.askAnswer(""), -2);
-        probe.same("names", probe.finder.count(0), 3);
+        probe.same("names", probe.count(0), 3);
         probe.matches(1, 0);
         // The draft stays: z = 1 takes 5 of its 80 characters.
         probe.typed(Probe.times(75, " "));
-        probe.same("full", probe.finder.type(' '), false);
+        probe.same("full", probe.type(' '), false);
         probe.same("ask", probe.askAnswer(""), -2);
-        probe.same("full", probe.finder.type(' '), false);
+        probe.same("full", probe.type(' '), false);
         probe.scheme(1, "int -> int");
-        probe.same("infix goes on", probe.finder.infix('^', 1, true), true);
+        probe.same("infix goes on", probe.infix('^', 1, true), true);
     }
 }

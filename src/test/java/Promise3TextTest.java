@@ -59,14 +59,14 @@ public final class Promise3TextTest {
         probe.declareThrows("f=1)", Probe.NO_TEXT);
         probe.declareThrows("   ", Probe.NO_TEXT);
         probe.declareThrows("let f=1 in f", Probe.NO_TEXT);
-        probe.same("nothing of these is kept", probe.finder.count(0), 2);
+        probe.same("nothing of these is kept", probe.count(0), 2);
     }
 
     private static void operatorDefinitions(Probe probe) {
         probe.anew();
         probe.declares("x ^ y = (y, x)", 0, "a -> b -> (b, a)");
         probe.askThrows("1 ^ 2", Probe.NO_TEXT);
-        probe.finder.infix('^', 0, false);
+        probe.infix('^', 0, false);
         probe.asks("1 ^ True", "(bool, int)");
         probe.declares("x-y=x", 1, "a -> b -> a");
         probe.declareThrows("x ^ x = 1", Probe.NO_TEXT);

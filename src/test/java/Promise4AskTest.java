@@ -199,24 +199,24 @@ public final class Promise4AskTest {
         probe.anew();
         probe.declares("x @ y = (x, y)", 0);
         probe.declares("x ^ y = (x, y)", 1);
-        probe.finder.infix('@', 3, false);
-        probe.finder.infix('^', 3, true);
+        probe.infix('@', 3, false);
+        probe.infix('^', 3, true);
         probe.asks("1 @ True @ 2", "((int, bool), int)");
         probe.asks("1 ^ True ^ 2", "(int, (bool, int))");
         probe.askThrows("1 ^ True @ 2", Probe.NO_TEXT);
         probe.askThrows("1 @ True ^ 2", Probe.NO_TEXT);
         // Neighbours are also those with only such between as bind ahead of both.
         probe.askThrows("1 @ 2 + 3 ^ 4", Probe.NO_TEXT);
-        probe.finder.infix('&', 2, false);
+        probe.infix('&', 2, false);
         probe.declares("x & y = (x, y)", 2);
         probe.asks("1 @ 2 & 3 ^ 4", "((int, int), (int, int))");
         probe.asks("1 + 2 @ 3 < 4 & 5", "((int, bool), int)");
         probe.asks("(1 ^ True) @ 2", "((int, bool), int)");
         probe.askThrows("1 : Nil ^ 2 @ 3", Probe.NO_TEXT);
         probe.asks("1 : Nil ^ 2 + 3 : Nil", "(list int, list int)");
-        probe.finder.infix('+', 5, false);
+        probe.infix('+', 5, false);
         probe.askThrows("1 + 2 : Nil", Probe.NO_TEXT);
-        probe.finder.infix('+', 5, true);
+        probe.infix('+', 5, true);
         probe.askThrows("1 + 2 : Nil", Probe.NO_TYPE);
         probe.asks("1 : Nil", "list int");
     }

@@ -2,9 +2,9 @@
 public final class Promise5SchemeTest {
     public static void main(String[] args) {
         Probe probe = new Probe("promise 5");
-        probe.same("none at first", probe.finder.scheme(0), -1);
+        probe.same("none at first", probe.scheme(0), -1);
         probe.declares("id x = x", 0);
-        probe.same("declare writes nothing", probe.finder.written(0), -1);
+        probe.same("declare writes nothing", probe.written(0), -1);
         probe.declares("data t a = A | B (a, (t a))", 102);
         probe.declares("eq x y = x ? y", 1);
         probe.declares("x ^ y = B (x, y)", 2);
@@ -16,20 +16,20 @@ public final class Promise5SchemeTest {
         probe.scheme(0, "a -> a");
         int[] none = {4, 24, 100, 102, -1, -2, Integer.MIN_VALUE, Integer.MAX_VALUE};
         for (int k : none) {
-            probe.same("scheme(" + k + ")", probe.finder.scheme(k), -1);
+            probe.same("scheme(" + k + ")", probe.scheme(k), -1);
             probe.same("what was written stays", probe.written(), "a -> a");
         }
         probe.asks("id", "bool");
-        probe.same("scheme(4)", probe.finder.scheme(4), -1);
+        probe.same("scheme(4)", probe.scheme(4), -1);
         probe.same("what was written stays", probe.written(), "bool");
         probe.declareThrows("z = 1 1", Probe.NO_TYPE);
-        probe.same("what was refused has none", probe.finder.scheme(4), -1);
+        probe.same("what was refused has none", probe.scheme(4), -1);
         usesLeaveItAlone(probe);
         probe.end();
     }
 
     private static void usesLeaveItAlone(Probe probe) {
-        probe.finder.infix('^', 5, true);
+        probe.infix('^', 5, true);
         probe.asks("(1 ^ A, True ^ A)", "(t int, t bool)");
         probe.asks("eq (1, 2)", "(int, int) -> bool");
         probe.askThrows("eq eq", Probe.NO_TYPE);

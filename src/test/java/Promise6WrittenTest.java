@@ -11,17 +11,17 @@ public final class Promise6WrittenTest {
 
     private static void places(Probe probe) {
         probe.anew();
-        probe.same("nothing yet", probe.finder.written(0), -1);
+        probe.same("nothing yet", probe.written(0), -1);
         probe.asks("1", "int");
-        probe.same("written(0)", probe.finder.written(0), (int) 'i');
-        probe.same("written(2)", probe.finder.written(2), (int) 't');
+        probe.same("written(0)", probe.written(0), (int) 'i');
+        probe.same("written(2)", probe.written(2), (int) 't');
         int[] none = {3, 4, 100, -1, Integer.MIN_VALUE, Integer.MAX_VALUE};
         for (int i : none) {
-            probe.same("written(" + i + ")", probe.finder.written(i), -1);
+            probe.same("written(" + i + ")", probe.written(i), -1);
         }
         probe.asks("(1, fn x -> x)", "(int, a -> a)");
         probe.asks("True", "bool");
-        probe.same("nothing of the longer one stays", probe.finder.written(4), -1);
+        probe.same("nothing of the longer one stays", probe.written(4), -1);
     }
 
     private static void forms(Probe probe) {
@@ -69,10 +69,10 @@ public final class Promise6WrittenTest {
         probe.askThrows("1 1", Probe.NO_TYPE);
         probe.same("what is refused writes nothing", probe.written(), "bool");
         probe.scheme(0, "int -> int");
-        probe.finder.type('1');
-        probe.finder.infix('^', 1, true);
-        probe.finder.matches(0);
-        probe.finder.count(0);
+        probe.type('1');
+        probe.infix('^', 1, true);
+        probe.matches(0);
+        probe.count(0);
         probe.same("the others write nothing", probe.written(), "int -> int");
     }
 }

@@ -15,8 +15,8 @@ public final class Promise8MatchesTest {
         if (probe.askAnswer("fn x -> case x of " + alternatives) instanceof Class) {
             probe.same("case of " + alternatives, "refused", "taken");
         }
-        probe.same("open: " + alternatives, probe.finder.matches(0), open);
-        probe.same("idle: " + alternatives, probe.finder.matches(1), idle);
+        probe.same("open: " + alternatives, probe.matches(0), open);
+        probe.same("idle: " + alternatives, probe.matches(1), idle);
     }
 
     private static void whats(Probe probe) {
@@ -24,7 +24,7 @@ public final class Promise8MatchesTest {
         probe.matches(0, 0);
         int[] none = {2, 3, -1, -2, Integer.MIN_VALUE, Integer.MAX_VALUE};
         for (int what : none) {
-            probe.same("matches(" + what + ")", probe.finder.matches(what), -1);
+            probe.same("matches(" + what + ")", probe.matches(what), -1);
         }
     }
 
@@ -102,7 +102,7 @@ public final class Promise8MatchesTest {
         probe.matches(0, 0);
         probe.asks("case A of _ -> 1 | A -> 2", "int");
         probe.matches(0, 1);
-        probe.finder.scheme(0);
+        probe.scheme(0);
         probe.matches(0, 1);
         probe.declares("y = 1", 1);
         probe.matches(0, 0);

@@ -11,46 +11,46 @@ public final class Promise9CountTest {
 
     private static void counts(Probe probe) {
         probe.anew();
-        probe.same("names", probe.finder.count(0), 0);
-        probe.same("data types", probe.finder.count(1), 2);
+        probe.same("names", probe.count(0), 0);
+        probe.same("data types", probe.count(1), 2);
         probe.declares("x = 1", 0);
         probe.declares("x = 1", 1);
         probe.declares("x + y = 1", 2);
-        probe.same("names", probe.finder.count(0), 3);
-        probe.same("data types", probe.finder.count(1), 2);
+        probe.same("names", probe.count(0), 3);
+        probe.same("data types", probe.count(1), 2);
         probe.declares("data t = A", 102);
-        probe.same("names", probe.finder.count(0), 3);
-        probe.same("data types", probe.finder.count(1), 3);
+        probe.same("names", probe.count(0), 3);
+        probe.same("data types", probe.count(1), 3);
         probe.asks("let y = 1 in y", "int");
         probe.declareThrows("y = z", Probe.NOT_THERE);
-        probe.same("names", probe.finder.count(0), 3);
+        probe.same("names", probe.count(0), 3);
     }
 
     private static void whats(Probe probe) {
         probe.anew();
         int[] none = {-1, -2, -100, 4, 5, 8, 100, Integer.MIN_VALUE, Integer.MIN_VALUE + 1, Integer.MAX_VALUE};
         for (int what : none) {
-            probe.same("count(" + what + ")", probe.finder.count(what), -1);
+            probe.same("count(" + what + ")", probe.count(what), -1);
         }
         probe.declares("data t = A", 102);
-        probe.same("count(4)", probe.finder.count(4), 1);
-        probe.same("count(5)", probe.finder.count(5), -1);
+        probe.same("count(4)", probe.count(4), 1);
+        probe.same("count(5)", probe.count(5), -1);
     }
 
     private static void allows(Probe probe, String declaration, int due) {
-        int number = probe.finder.count(1);
+        int number = probe.count(1);
         if (number >= 6) {
             probe.anew();
             number = 2;
         }
         probe.declares(declaration, 100 + number);
-        probe.same("allowed: " + declaration, probe.finder.count(2 + number), due);
+        probe.same("allowed: " + declaration, probe.count(2 + number), due);
     }
 
     private static void allowing(Probe probe) {
         probe.anew();
-        probe.same("bool", probe.finder.count(2), 1);
-        probe.same("list", probe.finder.count(3), 1);
+        probe.same("bool", probe.count(2), 1);
+        probe.same("list", probe.count(3), 1);
         allows(probe, "data t a = A | B a int | C (a, bool) (list a)", 1);
         allows(probe, "data u a = D (t a) (u (u a))", 1);
         allows(probe, "data v a = E | F (a -> a)", 0);

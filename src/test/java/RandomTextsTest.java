@@ -17,36 +17,49 @@ public final class RandomTextsTest {
 
     public static void main(String[] args) {
         RandomTextsTest test = new RandomTextsTest();
-        for (int i = 0; i < 400; i++) {
+        for (int i = 0; i < 2000; i++) {
             test.oneObject(i % 2 == 0);
+        }
+        for (int i = 0; i < 200; i++) {
+            test.untilGivenUp();
         }
         test.probe.end();
     }
 
+    /** A text, its state before and behind it, and what is written take less than 200 calls. */
     private void oneObject(boolean sensible) {
         probe.anew();
-        int refusals = 0;
-        for (int i = 0; i < 70; i++) {
+        while (probe.callsLeft() >= 200) {
             String text = sensible ? nested() : soup();
             if (text.length() > 80) {
                 text = text.substring(0, 80);
             }
             boolean declared = random.nextBoolean();
-            String before = state();
+            String before = probe.state();
             Object answer = declared ? probe.declareAnswer(text) : probe.askAnswer(text);
-            if (refusals >= 60) {
-                probe.same("given up on '" + text + "'", answer, -2);
-                probe.same("state of the finder that has given up", state(), before);
-                // The draft stays full from here on, so no more is typed into it.
-                return;
-            }
             if (answer instanceof Class) {
-                refusals++;
-                probe.same("state after '" + text + "' was refused", state(), before);
+                probe.same("state after '" + text + "' was refused", probe.state(), before);
                 probe.same("throws as told for '" + text + "'", isTold((Class<?>) answer, declared), true);
             } else {
                 probe.same("an answer for '" + text + "'", isAnswer((Integer) answer, declared), true);
             }
+        }
+    }
+
+    private void untilGivenUp() {
+        probe.anew();
+        int refusals = 0;
+        while (refusals < 60 && probe.callsLeft() >= 100) {
+            String text = soup();
+            text = text.substring(0, Math.min(text.length(), 16));
+            if (probe.askAnswer(text) instanceof Class) {
+                refusals++;
+            }
+        }
+        String before = probe.state();
+        probe.same("given up", probe.askAnswer("1"), refusals < 60 ? 3 : -2);
+        if (refusals == 60) {
+            probe.same("state of the finder that has given up", probe.state(), before);
         }
     }
 
@@ -59,15 +72,7 @@ public final class RandomTextsTest {
         if (!declared) {
             return answer > 0 && answer == probe.written().length();
         }
-        return answer == probe.finder.count(0) - 1 || answer == 99 + probe.finder.count(1);
-    }
-
-    private String state() {
-        StringBuilder all = new StringBuilder(probe.written());
-        for (int i = -1; i < 9; i++) {
-            all.append(' ').append(probe.finder.count(i)).append(' ').append(probe.finder.matches(i));
-        }
-        return all.toString();
+        return answer == probe.count(0) - 1 || answer == 99 + probe.count(1);
     }
 
     private String soup() {
