@@ -223,6 +223,14 @@ public final class EdgesComparableTest {
             probe.askRefused(text, Probe.NO_TYPE);
             probe.declareRefused("x=" + text, Probe.NO_TYPE);
         }
+        // Also where that type would stand in no part that is looked at for its size.
+        probe.given("any x=any x");
+        for (String text : new String[] {"case any 1 of x->x x", "case any 1 of x->x?(x,1)", "case any 1 of x->(1,x)?x",
+            "case any 1 of x->x?x:Nil", "case any 1 of x->any(if True then x else fn y->x)", "let x=any 1 in x x",
+            "let x=any 1 in x?(x,x)", "case any 1 of (a,b)->(a?(b,1),b?(a,1))", "case any 1 of x->case x of (y,_)->x?y"}) {
+            probe.askRefused(text, Probe.NO_TYPE);
+        }
+        probe.given();
         // The same variable on both sides is no such thing.
         probe.asked("fn x->if True then x else x", "a -> a");
         probe.asked("fn x->fn y->(if True then x else y,if True then y else x)", "a -> a -> (a, a)");

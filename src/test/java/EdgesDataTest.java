@@ -40,6 +40,10 @@ public final class EdgesDataTest {
         probe.declareRefused("x:x=1", Probe.NO_TEXT);
         probe.declareRefused("x:y=", Probe.NO_TEXT);
         probe.declareRefused("x:y=z", Probe.NOT_THERE);
+        // The operator stands ahead of its expression.
+        probe.declareRefused("x:y=1 1", Probe.NOT_THERE);
+        probe.declareRefused("x:y=(1 1,z)", Probe.NOT_THERE);
+        probe.declareRefused("x:y=x:y", Probe.NOT_THERE);
     }
 
     /** "data, a word, up to 2 further words (its PARAMETERS" */
